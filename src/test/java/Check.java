@@ -22,6 +22,14 @@ final class Check {
         }
     }
 
+    static void dueText(String call, String got, String want) {
+        checks++;
+        if (!got.equals(want)) {
+            wrong++;
+            System.out.println(call + " answered " + got + ", due is " + want);
+        }
+    }
+
     /** The very class is asked for: an ArrayIndexOutOfBoundsException is no IllegalArgumentException. */
     static void dueThrow(String call, Class<? extends RuntimeException> want, Deed deed) {
         checks++;

@@ -199,7 +199,7 @@ public final class FieldTrace {
             return (x - y + P) % P;
         }
 
-        /** Multiplies in halves of 31 bits, as the whole product has up to 122; 2^61 is 1 and 2^62 is 2 here. */
+        /** Multiplies in halves, as a product has up to 122 bits; modulo P, 2^61 is 1 and 2^62 is 2. */
         static long product(long x, long y) {
             long highX = x >>> HALF_BITS;
             long lowX = x & LOW_HALF;
@@ -616,17 +616,18 @@ public final class FieldTrace {
         }
 
         private int placeOp1() {
-            long base = look(op0Place);
+            long base;
             if (has(Word.OP1_BEHIND_PC)) {
                 base = pc;
             } else if (has(Word.OP1_FROM_FP)) {
                 base = fp;
             } else if (has(Word.OP1_FROM_AP)) {
                 base = ap;
-            } else if (base == Value.NONE) {
-                return NOT_SET;
-            } else if (!Value.isAddress(base)) {
-                return NOT_RECKONED;
+            } else {
+                base = look(op0Place);
+                if (!Value.isAddress(base)) {
+                    return base == Value.NONE ? NOT_SET : NOT_RECKONED;
+                }
             }
             op1Place = Value.shifted(base, Word.offsetOf(word, 2));
             return reckoned(op1Place);

@@ -185,6 +185,14 @@ public final class MemoryTest {
         x.address(4, 3, 1, 6);
         x.number(4, 0, 12);
         refuses(x, 4, 1, 10);
+        FieldTrace z = new FieldTrace();
+        z.number(4, 3, 14);
+        z.number(4, 0, 12);
+        refuses(z, 4, 1, 10);
+        FieldTrace xor = new FieldTrace();
+        xor.number(4, 3, 6);
+        xor.number(4, 0, 12);
+        Check.dueNoThrow("an agreeing x ^ y", () -> xor.number(4, 1, 10));
         FieldTrace y = new FieldTrace();
         y.number(4, 2, 8);
         y.number(4, 4, 14);

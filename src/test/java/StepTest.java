@@ -182,6 +182,8 @@ public final class StepTest {
                     .steps("42 / 6").holds("42 / 6", 2, 62 - place, 0, 7);
             new Machine().word(0, 0, 1, 1, MULTIPLY).number(2, 20, 1).number(2, place, 3).start(0, 20, 40)
                     .steps("1 / 3").holds("1 / 3", 2, 62 - place, 0, 1537228672809129301L);
+            new Machine().word(0, 0, 1, 1, MULTIPLY).number(2, 20, 9).number(2, place, 1).start(0, 20, 40)
+                    .steps("9 / 1").holds("9 / 1", 2, 62 - place, 0, 9);
             new Machine().word(0, 0, 1, 1, MULTIPLY).number(2, 20, 0).number(2, place, 3).start(0, 20, 40)
                     .steps("0 / 3").holds("0 / 3", 2, 62 - place, 0, 0);
             new Machine().word(0, 0, 1, 1, MULTIPLY).number(2, 20, 42).number(2, place, 0).start(0, 20, 40)
@@ -332,6 +334,8 @@ public final class StepTest {
         new Machine().word(0, 0, 0, 1, unless).number(2, 0, 0).number(1, 1, 7).steps("DST is 0")
                 .register("DST is 0", 0, 1, 2);
         new Machine().word(0, 0, 0, 1, unless).number(2, 0, 0).steps("DST is 0, OP1 not set");
+        new Machine().word(0, 0, 1, 1, unless).number(2, 0, 0).number(2, 1, 1).number(1, 1, 7)
+                .steps("DST is 0, OP0 is not").register("DST is 0, OP0 is not", 0, 1, 2);
         new Machine().word(0, 0, 0, 0, Flag.OP1_FP | Flag.JUMP_UNLESS).number(2, 0, 0).steps("DST is 0, size 1")
                 .register("DST is 0, size 1", 0, 1, 1);
         new Machine().word(0, 0, 0, 1, unless).number(2, 0, 1).number(1, 1, 7).steps("DST is 1")

@@ -22,6 +22,10 @@ final class Check {
         }
     }
 
+    static void dueAnswer(String call, long want, Call tried) {
+        dueNoThrow(call, () -> due(call, tried.answer(), want));
+    }
+
     static void dueText(String call, String got, String want) {
         checks++;
         if (!got.equals(want)) {

@@ -4,6 +4,18 @@ import java.util.NoSuchElementException;
 final class Machine {
     final FieldTrace trace = new FieldTrace();
 
+    /** ap at a cell -1000 .. 1000 of segment 2, fp at its cell 0, pc at cell 2. */
+    static Machine apAt(int cell) {
+        Machine x = new Machine().word(0, 0, 0, 1, Flag.OP1_PC | Flag.AP_RES).number(1, 1, cell);
+        return x.steps("ap to " + cell);
+    }
+
+    /** fp at any address, which cell 0 of segment 2 holds, ap at that cell, pc at cell 2. */
+    static Machine fpAt(int segment, int cell) {
+        Machine x = new Machine().word(1, 0, 0, 0, Flag.OP1_FP | Flag.RETURN).address(2, 0, segment, cell);
+        return x.start(1, 0, 0).steps("fp to " + cell + " of " + segment);
+    }
+
     /** Writes an instruction to a cell of segment 1. */
     Machine word(int cell, int dst, int op0, int op1, int flags) {
         trace.number(1, cell, trace.encode(dst, op0, op1, flags));

@@ -24,12 +24,13 @@ public final class MemoryTest {
     }
 
     private static void newObject() {
-        FieldTrace x = new FieldTrace();
         for (int segment = 1; segment <= 5; segment++) {
+            FieldTrace x = new FieldTrace();
             for (int cell = 0; cell <= 63; cell++) {
                 notSet(x, segment, cell);
             }
         }
+        FieldTrace x = new FieldTrace();
         Check.due("pc's segment", x.register(0, false), 1);
         Check.due("ap's segment", x.register(1, false), 2);
         Check.due("fp's segment", x.register(2, false), 2);

@@ -10,9 +10,11 @@ public final class ModelTest {
     private static final int[] JUMPS = {0, 0, 0, Flag.JUMP_TO, Flag.JUMP_BY, Flag.JUMP_UNLESS};
     private static final int[] APS = {0, Flag.AP_RES, Flag.AP_ONE, Flag.AP_ONE};
     private static final int[] DEEDS = {0, Flag.CALL, Flag.RETURN, Flag.ASSERT, Flag.ASSERT, Flag.ASSERT};
-    private static final long[] NUMBERS = {0, 0, 0, 1, 1, 1, 2, 2, 3, 3, 4, 6, 8, -1, -1, -2, -3, -4, 5, 12, 10, 63, 64, 500, 999, 1000, 1001, -999, -1000,
-        -1001, 65535, 65536, (1L << 60) - 1, 1L << 60, Flag.P, Flag.P - 1, Flag.P + 2, Long.MAX_VALUE, Long.MIN_VALUE};
-    private static final int[] CELLS = {0, 1, 2, 3, 4, 5, 6, 7, 8, 9, 10, 11, 12, 13, 60, 61, 62, 63, 64, -1, 999, 1000, -999, -1000};
+    private static final long[] NUMBERS = {0, 0, 0, 1, 1, 1, 2, 2, 3, 3, 4, 6, 8, -1, -1, -2, -3, -4, 5, 12, 10, 63,
+        64, 500, 999, 1000, 1001, -999, -1000, -1001, 65535, 65536, (1L << 60) - 1, 1L << 60, Flag.P,
+        Flag.P - 1, Flag.P + 2, Long.MAX_VALUE, Long.MIN_VALUE};
+    private static final int[] CELLS = {0, 1, 2, 3, 4, 5, 6, 7, 8, 9, 10, 11, 12, 13, 60, 61, 62, 63, 64, -1, 999, 1000,
+        -999, -1000};
 
     private final Random random;
     private final FieldTrace real = new FieldTrace();

@@ -4,6 +4,20 @@ import java.util.NoSuchElementException;
 final class Machine {
     final FieldTrace trace = new FieldTrace();
 
+    /** Instructions that each move ap by one, in cells 0 to count - 1 of segment 1. */
+    static Machine row(int count) {
+        Machine x = new Machine();
+        for (int cell = 0; cell < count; cell++) {
+            x.word(cell, 0, 0, 0, Flag.OP1_FP | Flag.AP_ONE);
+        }
+        return x;
+    }
+
+    /** An instruction that jumps to itself. */
+    static Machine endless() {
+        return new Machine().word(0, 0, 0, 1, Flag.OP1_PC | Flag.JUMP_BY).number(1, 1, 0);
+    }
+
     /** ap at a cell -1000 .. 1000 of segment 2, fp at its cell 0, pc at cell 2. */
     static Machine apAt(int cell) {
         Machine x = new Machine().word(0, 0, 0, 1, Flag.OP1_PC | Flag.AP_RES).number(1, 1, cell);

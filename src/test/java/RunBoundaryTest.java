@@ -23,22 +23,8 @@ public final class RunBoundaryTest {
         Boundary.end();
     }
 
-    /** Instructions that each move ap by one, in cells 0 to count - 1 of segment 1. */
-    private static Machine row(int count) {
-        Machine x = new Machine();
-        for (int cell = 0; cell < count; cell++) {
-            x.word(cell, 0, 0, 0, Flag.OP1_FP | Flag.AP_ONE);
-        }
-        return x;
-    }
-
-    /** An instruction that jumps to itself. */
-    private static Machine endless() {
-        return new Machine().word(0, 0, 0, 1, Flag.OP1_PC | Flag.JUMP_BY).number(1, 1, 0);
-    }
-
     private static Machine afterSteps(int count) {
-        Machine x = endless();
+        Machine x = Machine.endless();
         if (count > 0) {
             x.trace.run(count);
         }
@@ -85,16 +71,16 @@ public final class RunBoundaryTest {
     private static void stepsOfRun() {
         Boundary b = new Boundary(7, "n steps (1 .. 100)");
         for (int n : new int[] {1, 2, 63, 64}) {
-            Machine x = row(64);
+            Machine x = Machine.row(64);
             Check.dueAnswer(b.here("run(" + n + ")"), n, () -> x.trace.run(n));
             x.register(b.here("run(" + n + ")"), 0, 1, n).register(b.here("run(" + n + ")"), 1, 2, n);
         }
         for (int n : new int[] {65, 99, 100}) {
-            Check.dueAnswer(b.here("run(" + n + ")"), 64, () -> row(64).trace.run(n));
-            Check.dueAnswer(b.here("run(" + n + ") with three"), 3, () -> row(3).trace.run(n));
+            Check.dueAnswer(b.here("run(" + n + ")"), 64, () -> Machine.row(64).trace.run(n));
+            Check.dueAnswer(b.here("run(" + n + ") with three"), 3, () -> Machine.row(3).trace.run(n));
         }
         for (int n : new int[] {0, 101, -1, Integer.MIN_VALUE, Integer.MAX_VALUE}) {
-            Machine x = row(64);
+            Machine x = Machine.row(64);
             Check.dueThrow(b.beyond("run(" + n + ")"), IllegalArgumentException.class, () -> x.trace.run(n));
             x.register(b.beyond("run(" + n + ")"), 0, 1, 0);
             Check.due(b.beyond("run(" + n + "), rows()"), x.trace.rows(), 0);
@@ -107,11 +93,11 @@ public final class RunBoundaryTest {
         Boundary b = new Boundary(7, "until one fails");
         for (int good : new int[] {0, 1, 2, 62, 63}) {
             if (good > 0) {
-                Machine x = row(good);
+                Machine x = Machine.row(good);
                 Check.due(b.here("run(" + good + ")"), x.trace.run(good), good);
                 Check.due(b.here("failure()"), x.trace.failure(), 0);
             }
-            Machine y = row(good);
+            Machine y = Machine.row(good);
             Check.due(b.beyond("run(" + (good + 1) + ")"), y.trace.run(good + 1), good);
             Check.due(b.beyond("failure()"), y.trace.failure(), 1);
             Check.due(b.beyond("rows()"), y.trace.rows(), good);
@@ -138,12 +124,12 @@ public final class RunBoundaryTest {
             Check.due(b.beyond("rows() then"), y.trace.rows(), 64);
             Check.due(b.beyond("failure()"), y.trace.failure(), 0);
         }
-        Machine x = row(64);
+        Machine x = Machine.row(64);
         Check.due(b.here("64 instructions"), x.trace.run(100), 64);
         x.register(b.here("behind the last"), 0, 1, 64);
         Check.due(b.beyond("no step, so none fails"), x.trace.run(1), 0);
         Check.due(b.beyond("failure()"), x.trace.failure(), 0);
-        Machine y = row(63);
+        Machine y = Machine.row(63);
         Check.due(b.here("63 instructions"), y.trace.run(100), 63);
         Check.due(b.here("the 64th fails"), y.trace.failure(), 1);
         Check.due(b.here("rows()"), y.trace.rows(), 63);
@@ -151,7 +137,7 @@ public final class RunBoundaryTest {
 
     private static void rowsAreFromBeforeTheSteps() {
         Boundary b = new Boundary(7, "The registers before each step are a row of the trace");
-        Machine x = row(64);
+        Machine x = Machine.row(64);
         x.trace.run(100);
         for (int k : new int[] {0, 1, 62, 63}) {
             Check.due(b.here("pc in row " + k), x.trace.traced(k, 0), 1 + k);
@@ -160,7 +146,7 @@ public final class RunBoundaryTest {
         }
         Check.dueThrow(b.beyond("the registers behind the last step"), NoSuchElementException.class,
                 () -> x.trace.traced(64, 0));
-        Machine y = row(2);
+        Machine y = Machine.row(2);
         y.trace.run(3);
         Check.due(b.here("the last step that was done"), y.trace.traced(1, 0), 2);
         Check.dueThrow(b.beyond("the step that failed"), NoSuchElementException.class, () -> y.trace.traced(2, 0));
@@ -168,7 +154,7 @@ public final class RunBoundaryTest {
 
     private static void failures() {
         Boundary b = new Boundary(8, "How the latest step failed, 1 .. 4; 0 when it did not");
-        Machine x = row(1);
+        Machine x = Machine.row(1);
         Check.due(b.here("none yet"), x.trace.failure(), 0);
         x.steps(b.here("a step that is done"));
         x.fails(b.beyond("nothing there"), 1);
@@ -247,7 +233,7 @@ public final class RunBoundaryTest {
         for (int steps : new int[] {65, 100}) {
             Check.due(b.beyond(steps + " steps"), afterSteps(steps).trace.rows(), 64);
         }
-        Machine x = row(2);
+        Machine x = Machine.row(2);
         x.trace.run(100);
         Check.due(b.beyond("a step that failed"), x.trace.rows(), 2);
         x.start(0, 0, 0);
@@ -277,7 +263,7 @@ public final class RunBoundaryTest {
 
     private static void registersOfTraced() {
         Boundary b = new Boundary(13, "IllegalArgumentException: no such register");
-        FieldTrace x = row(2).start(0, 5, 9).trace;
+        FieldTrace x = Machine.row(2).start(0, 5, 9).trace;
         x.run(2);
         long[] first = {1, 3 + 5, 3 + 9};
         for (int register = 0; register <= 2; register++) {

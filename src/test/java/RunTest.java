@@ -18,19 +18,6 @@ public final class RunTest {
         Check.end();
     }
 
-    /** Instructions that each move ap by one, in cells 0 to count - 1. */
-    private static Machine row(int count) {
-        Machine x = new Machine();
-        for (int cell = 0; cell < count; cell++) {
-            x.word(cell, 0, 0, 0, Flag.OP1_FP | Flag.AP_ONE);
-        }
-        return x;
-    }
-
-    private static Machine endless() {
-        return new Machine().word(0, 0, 0, 1, Flag.OP1_PC | Flag.JUMP_BY).number(1, 1, 0);
-    }
-
     private static void startSets() {
         new Machine().start(63, 0, 63).register("start", 0, 1, 63).register("start", 1, 2, 0)
                 .register("start", 2, 2, 63);
@@ -43,7 +30,7 @@ public final class RunTest {
     }
 
     private static void startWrong() {
-        Machine x = row(3).start(0, 5, 6).steps("before");
+        Machine x = Machine.row(3).start(0, 5, 6).steps("before");
         x.trace.run(9);
         for (int wrong : new int[] {-1, 64, Integer.MIN_VALUE, Integer.MAX_VALUE}) {
             Check.dueThrow("start with pc " + wrong, IllegalArgumentException.class, () -> x.trace.start(wrong, 0, 0));
@@ -56,7 +43,7 @@ public final class RunTest {
     }
 
     private static void startEmptiesTheTrace() {
-        Machine x = row(5);
+        Machine x = Machine.row(5);
         Check.due("run(3)", x.trace.run(3), 3);
         Check.due("rows()", x.trace.rows(), 3);
         x.start(1, 9, 9);
@@ -68,7 +55,7 @@ public final class RunTest {
     }
 
     private static void runCounts() {
-        Machine x = row(10);
+        Machine x = Machine.row(10);
         Check.due("run(1)", x.trace.run(1), 1);
         x.register("after one", 0, 1, 1).register("after one", 1, 2, 1);
         Check.due("run(4)", x.trace.run(4), 4);
@@ -78,7 +65,7 @@ public final class RunTest {
     }
 
     private static void runStopsAtFailure() {
-        Machine x = row(10);
+        Machine x = Machine.row(10);
         Check.due("run(100)", x.trace.run(100), 10);
         Check.due("failure()", x.trace.failure(), 1);
         Check.due("rows()", x.trace.rows(), 10);
@@ -91,13 +78,13 @@ public final class RunTest {
     }
 
     private static void runStopsAtFullTrace() {
-        Machine x = endless();
+        Machine x = Machine.endless();
         Check.due("run(63)", x.trace.run(63), 63);
         Check.due("run(100)", x.trace.run(100), 1);
         Check.due("rows()", x.trace.rows(), 64);
         Check.due("run(1)", x.trace.run(1), 0);
         Check.due("failure()", x.trace.failure(), 0);
-        Machine y = row(64);
+        Machine y = Machine.row(64);
         Check.due("run(100)", y.trace.run(100), 64);
         Check.due("failure()", y.trace.failure(), 0);
         y.register("full", 0, 1, 64);
@@ -107,14 +94,14 @@ public final class RunTest {
     }
 
     private static void runWrong() {
-        Machine x = row(2);
+        Machine x = Machine.row(2);
         x.trace.run(3);
         for (int wrong : new int[] {0, -1, 101, Integer.MIN_VALUE, Integer.MAX_VALUE}) {
             Check.dueThrow("run(" + wrong + ")", IllegalArgumentException.class, () -> x.trace.run(wrong));
         }
         Check.due("rows()", x.trace.rows(), 2);
         Check.due("failure()", x.trace.failure(), 1);
-        Machine full = endless();
+        Machine full = Machine.endless();
         full.trace.run(100);
         Check.dueThrow("run(0) with a full trace", IllegalArgumentException.class, () -> full.trace.run(0));
     }
@@ -144,7 +131,7 @@ public final class RunTest {
     }
 
     private static void tracedRelocates() {
-        Machine x = row(3).start(0, 5, 7);
+        Machine x = Machine.row(3).start(0, 5, 7);
         x.trace.run(3);
         for (int k = 0; k < 3; k++) {
             Check.due("pc in row " + k, x.trace.traced(k, 0), 1 + k);
@@ -164,7 +151,7 @@ public final class RunTest {
     }
 
     private static void tracedWrong() {
-        Machine x = row(2);
+        Machine x = Machine.row(2);
         x.trace.run(5);
         for (int wrong : new int[] {-1, 2, 63, 64, Integer.MIN_VALUE, Integer.MAX_VALUE}) {
             Check.dueThrow("traced(" + wrong + ", 0)", NoSuchElementException.class, () -> x.trace.traced(wrong, 0));

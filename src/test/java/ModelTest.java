@@ -3,7 +3,6 @@ import java.util.Random;
 /** All promises: random runs of up to 512 calls on FieldTrace, held against the Model. */
 public final class ModelTest {
     private static final int RUNS = 4000;
-    private static final int MOST_CALLS = 512;
     private static final int[] SEGMENTS = {1, 2, 2, 2, 2, 2, 3, 4, 4, 5};
     private static final int[] MODES = {Flag.OP1_PC, Flag.OP1_FP, Flag.OP1_AP, 0};
     private static final int[] RESULTS = {0, Flag.SUM, Flag.SUM, Flag.PRODUCT};
@@ -17,68 +16,62 @@ public final class ModelTest {
         -999, -1000};
 
     private final Random random;
-    private final FieldTrace real = new FieldTrace();
-    private final Model model = new Model();
-    private final int[] failures;
-    private int calls = 0;
+    private final Twins twins;
+    private final int[] outcomes;
 
-    private ModelTest(long seed, int[] failures) {
+    private ModelTest(int seed, int[] outcomes) {
         random = new Random(seed);
-        this.failures = failures;
+        twins = new Twins("run " + seed);
+        this.outcomes = outcomes;
     }
 
     public static void main(String[] args) {
-        int[] failures = new int[6];
+        int[] outcomes = new int[6];
         for (int seed = 0; seed < RUNS; seed++) {
-            new ModelTest(seed, failures).play("run " + seed);
+            new ModelTest(seed, outcomes).play();
         }
-        System.out.println("steps that failed with 1 to 4: " + failures[1] + ", " + failures[2] + ", " + failures[3]
-                + ", " + failures[4] + "; steps done: " + failures[5]);
+        System.out.println("steps that failed with 1 to 4: " + outcomes[1] + ", " + outcomes[2] + ", " + outcomes[3]
+                + ", " + outcomes[4] + "; steps done: " + outcomes[5]);
         for (int how = 1; how <= 5; how++) {
-            Check.due("random runs meet outcome " + how, failures[how] > RUNS / 10 ? 1 : 0, 1);
+            Check.due("random runs meet outcome " + how, outcomes[how] > RUNS / 10 ? 1 : 0, 1);
         }
         Check.end();
     }
 
-    private void play(String name) {
+    private void play() {
         boolean wild = random.nextInt(4) == 0;
-        while (calls < 100) {
-            setUp(name, wild);
+        while (twins.calls() < 100) {
+            setUp(wild);
         }
-        while (calls < 380) {
+        while (twins.calls() < 380) {
             if (random.nextInt(3) == 0) {
-                setUp(name, wild);
+                setUp(wild);
             } else {
-                runSome(name);
+                runSome();
             }
         }
-        while (calls < MOST_CALLS) {
-            lookSomewhere(name);
+        while (twins.calls() < Twins.MOST_CALLS) {
+            lookSomewhere();
         }
     }
 
-    private void setUp(String name, boolean wild) {
-        int segment = wild ? random.nextInt(7) : SEGMENTS[random.nextInt(SEGMENTS.length)];
+    private void setUp(boolean wild) {
+        int segment = wild ? random.nextInt(7) : pick(SEGMENTS);
         int cell = random.nextInt(wild ? 70 : 16) - (wild ? 3 : 0);
         switch (random.nextInt(5)) {
             case 0:
                 int target = wild ? random.nextInt(7) : 1 + random.nextInt(5);
-                int at = wild ? random.nextInt(2100) - 1050 : CELLS[random.nextInt(CELLS.length)];
-                same(name + " address", () -> act(() -> real.address(segment, cell, target, at)),
-                        () -> act(() -> model.address(segment, cell, target, at)));
+                twins.address(segment, cell, target, wild ? random.nextInt(2100) - 1050 : pick(CELLS));
                 break;
             case 1:
             case 2:
-                long number = wild && random.nextInt(4) == 0 ? random.nextLong() : NUMBERS[random.nextInt(NUMBERS.length)];
-                same(name + " number", () -> act(() -> real.number(segment, cell, number)),
-                        () -> act(() -> model.number(segment, cell, number)));
+                boolean any = wild && random.nextInt(4) == 0;
+                twins.number(segment, cell, any ? random.nextLong() : NUMBERS[random.nextInt(NUMBERS.length)]);
                 break;
             default:
                 long word = word(wild);
-                int place = random.nextInt(wild ? 64 : 16);
-                same(name + " word", () -> act(() -> real.number(1, place, word)),
-                        () -> act(() -> model.number(1, place, word)));
-                same(name + " decode", () -> real.decode(word, cell % 6), () -> model.decode(word, cell % 6));
+                twins.number(1, random.nextInt(wild ? 64 : 16), word);
+                twins.decode(word, cell % 6);
         }
     }
 
@@ -101,73 +94,40 @@ public final class ModelTest {
         int op1 = (mode & Flag.OP1_PC) != 0 ? 1 : random.nextInt(2 * spread) - spread;
         int dst = random.nextInt(2 * spread) - spread;
         int op0 = random.nextInt(2 * spread) - spread;
-        int all = flags;
-        same("encode", () -> real.encode(dst, op0, op1, all), () -> model.encode(dst, op0, op1, all));
-        return model.encode(dst, op0, op1, all);
+        return twins.encode(dst, op0, op1, flags);
     }
 
-    private void runSome(String name) {
+    private void runSome() {
         if (random.nextInt(3) > 0) {
             int pc = random.nextInt(40) == 0 ? 64 : random.nextInt(16);
             int ap = random.nextInt(40) == 0 ? -1 : random.nextInt(16);
             int fp = random.nextInt(40) == 0 ? 99 : random.nextInt(16);
-            same(name + " start", () -> act(() -> real.start(pc, ap, fp)), () -> act(() -> model.start(pc, ap, fp)));
+            twins.start(pc, ap, fp);
         }
-        int n = random.nextInt(20) == 0 ? random.nextInt(104) - 1 : 1 + random.nextInt(4);
-        int before = model.rows();
-        same(name + " run(" + n + ")", () -> real.run(n), () -> model.run(n));
-        same(name + " failure", real::failure, model::failure);
-        same(name + " rows", real::rows, model::rows);
-        failures[5] += model.rows() - before;
-        failures[model.failure()]++;
+        int before = twins.model().rows();
+        twins.run(random.nextInt(20) == 0 ? random.nextInt(104) - 1 : 1 + random.nextInt(4));
+        twins.failure();
+        twins.rows();
+        outcomes[5] += twins.model().rows() - before;
+        outcomes[twins.model().failure()]++;
         for (int register = -1; register <= 3; register++) {
-            int one = register;
-            int row = random.nextInt(67) - 1;
-            same(name + " register", () -> real.register(one, true), () -> model.register(one, true));
-            same(name + " register", () -> real.register(one, false), () -> model.register(one, false));
-            same(name + " traced", () -> real.traced(row, one), () -> model.traced(row, one));
+            twins.register(register);
+            twins.traced(random.nextInt(67) - 1, register);
         }
     }
 
-    private void lookSomewhere(String name) {
+    private void lookSomewhere() {
         int segment = random.nextInt(20) == 0 ? random.nextInt(8) : 1 + random.nextInt(5);
         int cell = random.nextInt(4) == 0 ? random.nextInt(68) - 2 : random.nextInt(24);
-        String where = name + " (" + segment + ", " + cell + ")";
-        same(where + " segment", () -> real.segment(segment, cell), () -> model.segment(segment, cell));
-        same(where + " value", () -> real.value(segment, cell), () -> model.value(segment, cell));
+        twins.cell(segment, cell);
         if (random.nextInt(4) == 0) {
-            same(name + " begins", () -> real.begins(segment), () -> model.begins(segment));
-            int address = random.nextInt(model.begins(6) + 4) - 1;
-            same(name + " relocated " + address, () -> real.relocated(address), () -> model.relocated(address));
-            int operation = random.nextInt(6) - 1;
-            long x = NUMBERS[random.nextInt(NUMBERS.length)];
-            long y = random.nextLong();
-            same(name + " reckon", () -> real.reckon(operation, x, y), () -> model.reckon(operation, x, y));
+            twins.begins(segment);
+            twins.relocated(random.nextInt(twins.model().begins(6) + 4) - 1);
+            twins.reckon(random.nextInt(6) - 1, NUMBERS[random.nextInt(NUMBERS.length)], random.nextLong());
         }
     }
 
-    private int pick(int[] flags) {
-        return flags[random.nextInt(flags.length)];
-    }
-
-    private static long act(Check.Deed deed) {
-        deed.happens();
-        return 0;
-    }
-
-    private void same(String name, Check.Call got, Check.Call want) {
-        calls++;
-        if (calls > MOST_CALLS) {
-            return;
-        }
-        Check.dueText(name, answerOf(got), answerOf(want));
-    }
-
-    private static String answerOf(Check.Call call) {
-        try {
-            return Long.toString(call.answer());
-        } catch (RuntimeException thrown) {
-            return "throws." + thrown.getClass().getSimpleName();
-        }
+    private int pick(int[] some) {
+        return some[random.nextInt(some.length)];
     }
 }
